@@ -20,6 +20,8 @@ public final class CausesTest {
         leastMovesWithCauses();
         leastMovesWithDrives();
         leastMovesWithClear();
+        askedFirst();
+        checkThatDidNotRun();
         planOfTwo();
         planWeighs();
         planLeastNumberOfLikeOnes();
@@ -264,6 +266,45 @@ public final class CausesTest {
         least("cleared", x, 0);
         due.is("plan", x.plan(), 0);
         due.is("test", x.test(), -1);
+    }
+
+    /** Each of the four asked ahead of the others, as the codes changed. */
+    private static void askedFirst() {
+        for (int asked = 0; asked < 4; asked++) {
+            TroubleCodes x = new TroubleCodes();
+            Due.plain(x, 0);
+            Due.plain(x, 0);
+            x.cause(1, 4);
+            x.cause(1, 3);
+            due.is("new, asked " + asked, ask(x, asked), new int[] {1, 0, 0, -1}[asked]);
+            Due.drive(x, "B");
+            due.is("two explain, asked " + asked, ask(x, asked), new int[] {2, 1, 6, 1}[asked]);
+            Due.drive(x, ".B");
+            due.is("nothing explains, asked " + asked, ask(x, asked), new int[] {0, -1, -1, -1}[asked]);
+            Due.drive(x, "GG");
+            due.is("healed, asked " + asked, ask(x, asked), new int[] {1, 0, 0, -1}[asked]);
+        }
+    }
+
+    private static int ask(TroubleCodes x, int asked) {
+        if (asked == 0) return x.least();
+        if (asked == 1) return x.leastAt(0);
+        return asked == 2 ? x.plan() : x.test();
+    }
+
+    private static void checkThatDidNotRun() {
+        TroubleCodes x = new TroubleCodes();
+        Due.permanent(x, 0);
+        Due.plain(x, 0);
+        x.cause(2, 1);
+        x.cause(3, 1);
+        Due.drive(x, "B.");
+        x.clear();
+        Due.drive(x, ".B");
+        due.is("check 0 is set still", x.about(0, 0), 2);
+        least("check 0 did not run since", x, 1, 2);
+        Due.drive(x, "B.");
+        least("check 0 ran since", x, 2);
     }
 
     private static void planOfTwo() {

@@ -450,6 +450,13 @@ public final class ChecksTest {
         Due.drive(x, "...B");
         x.clear();
         due.is("permanent", x.lamp(), 1);
+        TroubleCodes y = new TroubleCodes();
+        y.check(0, 0, 1, 1, 9, 0, true);
+        y.check(0, 0, 1, 1, 9, 0, false);
+        Due.drive(y, ".B");
+        due.is("the other one is set", y.lamp(), 0);
+        Due.drive(y, "B.");
+        due.is("the first one", y.lamp(), 1);
     }
 
     private static void clear() {
