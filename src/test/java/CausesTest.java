@@ -4,19 +4,15 @@ public final class CausesTest {
 
     public static void main(String[] args) {
         causeNumbers();
-        causeRefusals();
-        causeFull();
         causeInADrive();
         explains();
         explainsOnlyAmongThoseThatRan();
-        explainsRefusals();
         explainsCodesAsTheyAre();
         leastOfNothing();
         leastNone();
         leastFewest();
         leastInOrder();
         leastTenAtMost();
-        leastAtRefusals();
         leastMovesWithCauses();
         leastMovesWithDrives();
         leastMovesWithClear();
@@ -57,27 +53,6 @@ public final class CausesTest {
         TroubleCodes y = machine(16, 0);
         due.is("all checks", y.cause(0xffff, 5), 0);
         due.is("the last check", y.cause(0x8000, 5), 1);
-    }
-
-    private static void causeRefusals() {
-        TroubleCodes x = machine(2, 0);
-        long d = x.digest();
-        int[][] wrong = {{0, 1}, {4, 1}, {5, 1}, {-1, 1}, {Integer.MIN_VALUE, 1}, {Integer.MAX_VALUE, 1}, {0x80000001, 1},
-            {1, 0}, {1, -1}, {1, 1001}, {1, Integer.MAX_VALUE}, {1, Integer.MIN_VALUE}};
-        for (int[] w : wrong) due.refused("cause(" + w[0] + ", " + w[1] + ")", x, d, x.cause(w[0], w[1]), -2);
-        TroubleCodes y = machine(16, 0);
-        due.is("a check beyond", y.cause(0x10000, 1), -2);
-        TroubleCodes z = new TroubleCodes();
-        due.is("no checks", z.cause(1, 1), -2);
-    }
-
-    private static void causeFull() {
-        TroubleCodes x = machine(1, 0);
-        for (int i = 0; i < 10; i++) due.is("cause", x.cause(1, 1), i);
-        long d = x.digest();
-        due.refused("cause 10", x, d, x.cause(1, 1), -4);
-        due.refused("cause 10 wrong", x, d, x.cause(2, 1), -2);
-        due.refused("cause 10 wrong price", x, d, x.cause(1, 0), -2);
     }
 
     private static void causeInADrive() {
@@ -121,20 +96,6 @@ public final class CausesTest {
         due.is("it ran and is not set", x.explains(5), 0);
         Due.drive(x, "...B");
         least("it is set", x, 5);
-    }
-
-    private static void explainsRefusals() {
-        TroubleCodes x = machine(2, 0);
-        due.is("explains 0", x.explains(0), 1);
-        due.is("explains 1, no causes", x.explains(1), -2);
-        x.cause(1, 1);
-        x.cause(2, 1);
-        for (int set : new int[] {4, 5, -1, 1024, Integer.MAX_VALUE, Integer.MIN_VALUE, 0x80000001}) {
-            due.is("explains " + set, x.explains(set), -2);
-        }
-        for (int i = 0; i < 8; i++) x.cause(1, 1);
-        due.is("explains all", x.explains(1023), 0);
-        due.is("explains beyond", x.explains(1024), -2);
     }
 
     private static void explainsCodesAsTheyAre() {
@@ -211,13 +172,6 @@ public final class CausesTest {
         TroubleCodes z = machine(10, 1023);
         for (int i = 0; i < 10; i++) z.cause(1 << i, 1);
         least("all ten causes", z, 1023);
-    }
-
-    private static void leastAtRefusals() {
-        TroubleCodes x = machine(1, 1);
-        x.cause(1, 1);
-        x.cause(1, 1);
-        for (int i : new int[] {-1, 2, 10, Integer.MAX_VALUE, Integer.MIN_VALUE}) due.is("leastAt " + i, x.leastAt(i), -1);
     }
 
     private static void leastMovesWithCauses() {

@@ -4,14 +4,9 @@ public final class ChecksTest {
 
     public static void main(String[] args) {
         constants();
-        newObject();
         checkNumbers();
-        checkRefusals();
-        checkRefusedDuringDrive();
-        checkFull();
         following();
         beginAndEnd();
-        ranRefusals();
         badTellingWins();
         pendingAndSet();
         pendingGoneByOneGood();
@@ -29,11 +24,9 @@ public final class ChecksTest {
         countsStayAsGone();
         endCounts();
         aboutRan();
-        aboutRefusals();
         lamp();
         clear();
         clearCounts();
-        clearRefused();
         due.finish();
     }
 
@@ -42,17 +35,6 @@ public final class ChecksTest {
         due.is("BAD", TroubleCodes.BAD, -2);
         due.is("NO", TroubleCodes.NO, -3);
         due.is("FULL", TroubleCodes.FULL, -4);
-    }
-
-    private static void newObject() {
-        TroubleCodes x = new TroubleCodes();
-        for (int what = 0; what < 8; what++) due.is("new: count " + what, x.count(what), 0);
-        for (int i = 0; i < 4; i++) due.is("new: fact " + i, x.fact(i, 0), 0);
-        due.is("new: about", x.about(0, 0), -2);
-        due.is("new: room", x.room(8), 8);
-        due.is("new: end", x.end(), -3);
-        due.is("new: lamp", x.lamp(), 0);
-        due.is("new: clear", x.clear(), 0);
     }
 
     private static void checkNumbers() {
@@ -66,46 +48,6 @@ public final class ChecksTest {
         due.is("sort 0", x.about(0, 7), 0);
         due.is("sort 1", x.about(1, 7), 1);
         due.is("sort 2", x.about(2, 7), 2);
-    }
-
-    private static void checkRefusals() {
-        TroubleCodes x = new TroubleCodes();
-        x.check(0, 0, 1, 1, 1, 0, false);
-        long d = x.digest();
-        int[][] wrong = {
-            {-1, 0, 1, 1, 1, 0}, {3, 0, 1, 1, 1, 0}, {2, -1, 1, 1, 1, 0}, {2, 1, 1, 1, 1, 0}, {2, 16, 1, 1, 1, 0},
-            {0, 0, 0, 1, 1, 0}, {0, 0, 10, 1, 1, 0}, {0, 0, 1, 0, 1, 0}, {0, 0, 1, 10, 1, 0},
-            {0, 0, 1, 1, 0, 0}, {0, 0, 1, 1, 91, 0}, {0, 0, 1, 1, 1, -1}, {0, 0, 1, 1, 1, 10},
-            {Integer.MIN_VALUE, 0, 1, 1, 1, 0}, {2, Integer.MIN_VALUE, 1, 1, 1, 0}, {2, Integer.MAX_VALUE, 1, 1, 1, 0},
-            {0, 0, Integer.MIN_VALUE, 1, 1, 0}, {0, 0, 1, Integer.MAX_VALUE, 1, 0}, {0, 0, 1, 1, Integer.MIN_VALUE, 0},
-            {0, 0, 1, 1, 1, Integer.MAX_VALUE}};
-        for (int i = 0; i < wrong.length; i++) {
-            int[] w = wrong[i];
-            due.refused("check wrong " + i, x, d, x.check(w[0], w[1], w[2], w[3], w[4], w[5], true), -2);
-        }
-        TroubleCodes none = new TroubleCodes();
-        due.is("check following itself", none.check(2, 0, 1, 1, 1, 0, false), -2);
-    }
-
-    private static void checkRefusedDuringDrive() {
-        TroubleCodes x = new TroubleCodes();
-        for (int i = 0; i < 16; i++) x.check(0, 0, 1, 1, 1, 0, false);
-        x.begin();
-        long d = x.digest();
-        due.refused("check in a drive, full", x, d, x.check(0, 0, 1, 1, 1, 0, false), -3);
-        due.refused("check in a drive, wrong", x, d, x.check(0, 0, 0, 1, 1, 0, false), -2);
-        x.end();
-        due.is("check full after it", x.check(0, 0, 1, 1, 1, 0, false), -4);
-    }
-
-    private static void checkFull() {
-        TroubleCodes x = new TroubleCodes();
-        for (int i = 0; i < 16; i++) due.is("check " + i, x.check(i == 0 ? 0 : 2, i - 1, 1, 1, 1, 0, false), i);
-        long d = x.digest();
-        due.refused("check 16", x, d, x.check(0, 0, 1, 1, 1, 0, false), -4);
-        due.refused("check 16 wrong", x, d, x.check(0, 0, 1, 1, 1, 10, false), -2);
-        due.refused("check 16 following the last", x, d, x.check(2, 15, 1, 1, 1, 0, false), -4);
-        due.refused("check 16 following none", x, d, x.check(2, 16, 1, 1, 1, 0, false), -2);
     }
 
     private static void following() {
@@ -135,24 +77,6 @@ public final class ChecksTest {
             due.is("no drive goes", x.count(7), 0);
             due.is("end again", x.end(), -3);
         }
-    }
-
-    private static void ranRefusals() {
-        TroubleCodes x = new TroubleCodes();
-        due.is("ran without checks", x.ran(0, true), -2);
-        Due.plain(x, 0);
-        due.is("ran, no drive", x.ran(0, true), -3);
-        due.is("ran wrong, no drive", x.ran(1, true), -2);
-        x.begin();
-        due.is("ran -1", x.ran(-1, true), -2);
-        due.is("ran 1", x.ran(1, true), -2);
-        due.is("ran 16", x.ran(16, true), -2);
-        due.is("ran most", x.ran(Integer.MAX_VALUE, true), -2);
-        due.is("ran least", x.ran(Integer.MIN_VALUE, true), -2);
-        due.is("end", x.end(), 0);
-        due.is("nothing was told", x.about(0, 6), 0);
-        due.is("a telling of no drive is not kept", Due.drive(x, "."), 0);
-        due.is("ran since", x.about(0, 6), 0);
     }
 
     private static void badTellingWins() {
@@ -423,14 +347,6 @@ public final class ChecksTest {
         due.is("ran not since", x.about(0, 6), 0);
     }
 
-    private static void aboutRefusals() {
-        TroubleCodes x = new TroubleCodes();
-        Due.plain(x, 0);
-        int[][] wrong = {{0, -1}, {0, 8}, {-1, 0}, {1, 0}, {1, 4}, {16, 0}, {Integer.MAX_VALUE, 7}, {Integer.MIN_VALUE, 0},
-            {0, Integer.MAX_VALUE}, {0, Integer.MIN_VALUE}};
-        for (int[] w : wrong) due.is("about(" + w[0] + ", " + w[1] + ")", x.about(w[0], w[1]), -2);
-    }
-
     private static void lamp() {
         TroubleCodes x = new TroubleCodes();
         x.check(0, 0, 1, 1, 9, 0, false);
@@ -500,16 +416,5 @@ public final class ChecksTest {
         due.is("pending, healed, set; not none, not permanent", x.clear(), 3);
         due.is("again", x.clear(), 0);
         due.is("good count of a none", x.about(3, 2), 0);
-    }
-
-    private static void clearRefused() {
-        TroubleCodes x = new TroubleCodes();
-        Due.plain(x, 0);
-        Due.drive(x, "B");
-        x.begin();
-        long d = x.digest();
-        due.refused("clear in a drive", x, d, x.clear(), -3);
-        x.end();
-        due.is("clear after it", x.clear(), 1);
     }
 }

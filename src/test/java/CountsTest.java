@@ -8,11 +8,9 @@ public final class CountsTest {
         foretellsByCodeAtBegin();
         foretellsCountsDrives();
         foretellsStaysAsCleared();
-        foretellsRefusals();
+        foretellsFirstAndLast();
         sets();
         counts();
-        countRefusals();
-        digestOfNew();
         digestOfAll();
         digestIsOfWhatItSays();
         due.finish();
@@ -102,27 +100,14 @@ public final class CountsTest {
         due.is("cleared ones don't foretell", x.foretells(0, 1), 0);
     }
 
-    private static void foretellsRefusals() {
-        TroubleCodes x = new TroubleCodes();
-        due.is("no checks", x.foretells(0, 0), -2);
-        due.is("no checks", x.sets(0), -2);
-        Due.plain(x, 0);
-        Due.plain(x, 0);
-        for (int c : new int[] {-1, 2, 15, 16, Integer.MAX_VALUE, Integer.MIN_VALUE}) {
-            due.is("foretells(" + c + ", 0)", x.foretells(c, 0), -2);
-            due.is("foretells(0, " + c + ")", x.foretells(0, c), -2);
-            due.is("sets(" + c + ")", x.sets(c), -2);
-        }
-        due.is("foretells(1, 1)", x.foretells(1, 1), 0);
-        TroubleCodes y = new TroubleCodes();
-        for (int i = 0; i < 16; i++) Due.plain(y, 0);
-        due.is("the last", y.foretells(15, 15), 0);
-        Due.drive(y, "...............B");
-        Due.drive(y, "B");
-        due.is("the last foretells the first", y.foretells(15, 0), 1);
-        Due.drive(y, "...............G");
-        Due.drive(y, "...............B");
-        due.is("the first foretells the last", y.foretells(0, 15), 1);
+    private static void foretellsFirstAndLast() {
+        TroubleCodes x = Due.plains(16);
+        Due.drive(x, "...............B");
+        Due.drive(x, "B");
+        due.is("the last foretells the first", x.foretells(15, 0), 1);
+        Due.drive(x, "...............G");
+        Due.drive(x, "...............B");
+        due.is("the first foretells the last", x.foretells(0, 15), 1);
     }
 
     private static void sets() {
@@ -157,17 +142,6 @@ public final class CountsTest {
         x.begin();
         int[] want = {6, 2, 3, 1, 2, 3, 4, 1};
         for (int what = 0; what < 8; what++) due.is("count " + what, x.count(what), want[what]);
-    }
-
-    private static void countRefusals() {
-        TroubleCodes x = new TroubleCodes();
-        for (int what : new int[] {-1, 8, Integer.MAX_VALUE, Integer.MIN_VALUE}) due.is("count " + what, x.count(what), -2);
-    }
-
-    private static void digestOfNew() {
-        long h = 211;
-        for (int i = 0; i < 12; i++) h *= 31;
-        due.is("new", new TroubleCodes().digest(), h);
     }
 
     /** The digest by the document's words, from what the other calls answer; price and checks of causes as told. */

@@ -4,11 +4,9 @@ public final class FactsTest {
 
     public static void main(String[] args) {
         facts();
-        factRefusals();
         frozenAsSet();
         frozenAnew();
         frozenStaysWhileSet();
-        frozenRefusals();
         leastWeightGoes();
         firstFrozenGoes();
         orderWithinADrive();
@@ -20,8 +18,6 @@ public final class FactsTest {
         agedMakesRoomForLaterChecks();
         roomSmaller();
         roomPermanentStay();
-        roomRefusals();
-        roomAtFirst();
         due.finish();
     }
 
@@ -33,16 +29,6 @@ public final class FactsTest {
         for (int i = 0; i < 4; i++) due.is("most", x.fact(i, 0), 1000);
         x.begin();
         due.is("in a drive", x.fact(0, 5), 0);
-    }
-
-    private static void factRefusals() {
-        TroubleCodes x = new TroubleCodes();
-        x.fact(0, 5);
-        x.fact(3, 6);
-        long d = x.digest();
-        int[][] wrong = {{-1, 0}, {4, 0}, {0, -1001}, {3, 1001}, {Integer.MAX_VALUE, 0}, {Integer.MIN_VALUE, 0},
-            {0, Integer.MAX_VALUE}, {0, Integer.MIN_VALUE}, {0, -2000}};
-        for (int[] w : wrong) due.refused("fact(" + w[0] + ", " + w[1] + ")", x, d, x.fact(w[0], w[1]), -2000);
     }
 
     private static void tellFacts(TroubleCodes x, int a) {
@@ -99,26 +85,6 @@ public final class FactsTest {
         isFrozen("set still", x, 0, 0, 10);
     }
 
-    private static void frozenRefusals() {
-        TroubleCodes x = new TroubleCodes();
-        Due.plain(x, 0);
-        due.is("frozenAt none", x.frozenAt(0), -1);
-        due.is("frozen none", x.frozen(0, 0), -2000);
-        Due.drive(x, "B");
-        due.is("frozen", x.frozen(0, 0), 0);
-        int[][] wrong = {{0, -1}, {0, 4}, {1, 0}, {-1, 0}, {16, 0}, {Integer.MAX_VALUE, 0}, {Integer.MIN_VALUE, 0},
-            {0, Integer.MAX_VALUE}, {0, Integer.MIN_VALUE}};
-        for (int[] w : wrong) due.is("frozen(" + w[0] + ", " + w[1] + ")", x.frozen(w[0], w[1]), -2000);
-        for (int c : new int[] {-1, 1, 16, Integer.MAX_VALUE, Integer.MIN_VALUE}) due.is("frozenAt(" + c + ")", x.frozenAt(c), -2);
-    }
-
-    /** Which checks have frozen facts, as bits. */
-    private static int frozenBits(TroubleCodes x) {
-        int bits = 0;
-        for (int c = 0; c < x.count(0); c++) bits |= x.about(c, 5) << c;
-        return bits;
-    }
-
     private static void leastWeightGoes() {
         TroubleCodes x = new TroubleCodes();
         Due.plain(x, 5);
@@ -127,9 +93,9 @@ public final class FactsTest {
         Due.plain(x, 4);
         x.room(3);
         Due.drive(x, "BBB");
-        due.is("room for all", frozenBits(x), 7);
+        due.is("room for all", Due.frozenBits(x), 7);
         Due.drive(x, "...B");
-        due.is("the least weight goes", frozenBits(x), 0b1101);
+        due.is("the least weight goes", Due.frozenBits(x), 0b1101);
         due.is("its code stays", x.about(1, 0), 2);
         due.is("count", x.count(5), 3);
         due.is("the new one stays", x.frozenAt(3), 1);
@@ -143,14 +109,14 @@ public final class FactsTest {
         Due.drive(x, "B");
         Due.drive(x, ".B");
         Due.drive(x, "...B");
-        due.is("the first frozen goes", frozenBits(x), 0b1011);
+        due.is("the first frozen goes", Due.frozenBits(x), 0b1011);
     }
 
     private static void orderWithinADrive() {
         TroubleCodes x = new TroubleCodes();
         for (int i = 0; i < 16; i++) Due.plain(x, 2);
         Due.drive(x, "BBBBBBBBBBBBBBBB");
-        due.is("by numbers", frozenBits(x), 0xff00);
+        due.is("by numbers", Due.frozenBits(x), 0xff00);
         due.is("all set", x.count(3), 16);
         due.is("count", x.count(5), 8);
     }
@@ -162,10 +128,10 @@ public final class FactsTest {
         Due.drive(x, "BB");
         Due.drive(x, "G");
         Due.drive(x, "B");
-        due.is("both", frozenBits(x), 3);
+        due.is("both", Due.frozenBits(x), 3);
         due.is("frozen anew", x.frozenAt(0), 2);
         Due.drive(x, "..B");
-        due.is("the other is the first frozen now", frozenBits(x), 0b101);
+        due.is("the other is the first frozen now", Due.frozenBits(x), 0b101);
     }
 
     private static void permanentStays() {
@@ -176,9 +142,9 @@ public final class FactsTest {
         Due.permanent(x, 0);
         x.room(2);
         Due.drive(x, "BBB");
-        due.is("of the others the least", frozenBits(x), 0b0011);
+        due.is("of the others the least", Due.frozenBits(x), 0b0011);
         Due.drive(x, "...B");
-        due.is("permanent in, plain out", frozenBits(x), 0b1001);
+        due.is("permanent in, plain out", Due.frozenBits(x), 0b1001);
     }
 
     private static void newOneGoes() {
@@ -188,10 +154,10 @@ public final class FactsTest {
         Due.plain(x, 9);
         x.room(1);
         due.is("end", Due.drive(x, "BB"), 2);
-        due.is("the new permanent one goes", frozenBits(x), 1);
+        due.is("the new permanent one goes", Due.frozenBits(x), 1);
         due.is("its code stays", x.about(1, 0), 2);
         due.is("end", Due.drive(x, "..B"), 1);
-        due.is("the new plain one goes", frozenBits(x), 1);
+        due.is("the new plain one goes", Due.frozenBits(x), 1);
         due.is("its code stays", x.about(2, 0), 2);
         due.is("frozen since the first", x.frozenAt(0), 0);
     }
@@ -203,9 +169,9 @@ public final class FactsTest {
         Due.plain(x, 5);
         x.room(1);
         Due.drive(x, "BB");
-        due.is("the new one is the least", frozenBits(x), 1);
+        due.is("the new one is the least", Due.frozenBits(x), 1);
         Due.drive(x, "..B");
-        due.is("of like ones the first", frozenBits(x), 4);
+        due.is("of like ones the first", Due.frozenBits(x), 4);
     }
 
     private static void ownFrozenGoesFirst() {
@@ -216,15 +182,15 @@ public final class FactsTest {
         Due.drive(x, "BB");
         Due.drive(x, "GG");
         Due.drive(x, ".B");
-        due.is("no other goes for a new one of the same check", frozenBits(x), 3);
+        due.is("no other goes for a new one of the same check", Due.frozenBits(x), 3);
         TroubleCodes y = new TroubleCodes();
         for (int i = 0; i < 3; i++) Due.permanent(y, 0);
         Due.drive(y, "BBB");
         y.room(1);
-        due.is("three in a room for one", frozenBits(y), 7);
+        due.is("three in a room for one", Due.frozenBits(y), 7);
         Due.drive(y, "G");
         Due.drive(y, "B");
-        due.is("its old one goes, its new one too", frozenBits(y), 6);
+        due.is("its old one goes, its new one too", Due.frozenBits(y), 6);
     }
 
     private static void agedMakesRoomForLaterChecks() {
@@ -238,12 +204,12 @@ public final class FactsTest {
                 Due.drive(x, "B.B");
                 Due.drive(x, "G..");
                 due.is("end", Due.drive(x, ".B."), 1);
-                due.is("check 0 is gone ahead of the freezing for 1", frozenBits(x), 0b110);
+                due.is("check 0 is gone ahead of the freezing for 1", Due.frozenBits(x), 0b110);
             } else {
                 Due.drive(x, ".BB");
                 Due.drive(x, ".G.");
                 due.is("end", Due.drive(x, "B.."), 1);
-                due.is("check 1 goes after the freezing for 0", frozenBits(x), 0b001);
+                due.is("check 1 goes after the freezing for 0", Due.frozenBits(x), 0b001);
             }
         }
     }
@@ -255,13 +221,13 @@ public final class FactsTest {
         Due.drive(x, "BBB.BB");
         Due.drive(x, "...B..");
         due.is("room 6", x.room(6), 8);
-        due.is("all", frozenBits(x), 0b111111);
+        due.is("all", Due.frozenBits(x), 0b111111);
         due.is("room 5", x.room(5), 6);
-        due.is("the first frozen of weight 1", frozenBits(x), 0b111101);
+        due.is("the first frozen of weight 1", Due.frozenBits(x), 0b111101);
         due.is("room 2", x.room(2), 5);
-        due.is("the heaviest stay", frozenBits(x), 0b110000);
+        due.is("the heaviest stay", Due.frozenBits(x), 0b110000);
         due.is("room 7", x.room(7), 2);
-        due.is("none comes again", frozenBits(x), 0b110000);
+        due.is("none comes again", Due.frozenBits(x), 0b110000);
         due.is("codes stay", x.count(3), 6);
     }
 
@@ -273,35 +239,15 @@ public final class FactsTest {
         Due.plain(x, 8);
         Due.drive(x, "BBBB");
         due.is("room 3", x.room(3), 8);
-        due.is("a plain one goes", frozenBits(x), 0b0111);
+        due.is("a plain one goes", Due.frozenBits(x), 0b0111);
         due.is("room 1", x.room(1), 3);
-        due.is("permanent ones stay", frozenBits(x), 0b0101);
+        due.is("permanent ones stay", Due.frozenBits(x), 0b0101);
         Due.drive(x, "...G");
         Due.drive(x, "...B");
-        due.is("no room for a new one", frozenBits(x), 0b0101);
+        due.is("no room for a new one", Due.frozenBits(x), 0b0101);
         due.is("room", x.room(3), 1);
         Due.drive(x, "...G");
         Due.drive(x, "...B");
-        due.is("room again", frozenBits(x), 0b1101);
-    }
-
-    private static void roomRefusals() {
-        TroubleCodes x = new TroubleCodes();
-        Due.plain(x, 0);
-        Due.drive(x, "B");
-        long d = x.digest();
-        for (int r : new int[] {0, -1, 9, Integer.MAX_VALUE, Integer.MIN_VALUE}) due.refused("room " + r, x, d, x.room(r), -2);
-        due.is("room was", x.room(1), 8);
-        x.begin();
-        due.is("room in a drive", x.room(8), 1);
-    }
-
-    private static void roomAtFirst() {
-        TroubleCodes x = new TroubleCodes();
-        for (int i = 0; i < 9; i++) Due.plain(x, 9 - i);
-        Due.drive(x, "BBBBBBBB");
-        due.is("eight", frozenBits(x), 0xff);
-        Due.drive(x, "........B");
-        due.is("the ninth is the lightest", frozenBits(x), 0xff);
+        due.is("room again", Due.frozenBits(x), 0b1101);
     }
 }
