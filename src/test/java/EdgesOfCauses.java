@@ -36,6 +36,7 @@ final class EdgesOfCauses {
         explainsEnded();
         leastNone();
         leastFewest();
+        leastSinceCleared();
         leastTen();
         leastAtEnds();
         leastRising();
@@ -304,6 +305,22 @@ final class EdgesOfCauses {
         TroubleCodes w = machine(9, 0x1ff);
         for (int i = 0; i < 10; i++) w.cause(1 << Math.min(i, 8), 1);
         least(w, 0b0111111111, 0b1011111111);
+    }
+
+    private void leastSinceCleared() {
+        due.edge(15, "since CLEARED (or ever)", "a permanent one that is set: ahead of clearing, after it, run again");
+        TroubleCodes x = new TroubleCodes();
+        Due.permanent(x, 0);
+        causes(x, 1, 3, 1, 4);
+        Due.drive(x, "B");
+        least(x, 1, 2);
+        due.is("plan()", x.plan(), 6);
+        x.clear();
+        least(x, 0);
+        due.is("plan()", x.plan(), 0);
+        Due.drive(x, "B");
+        least(x, 1, 2);
+        due.is("plan()", x.plan(), 6);
     }
 
     private void leastTen() {

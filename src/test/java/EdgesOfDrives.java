@@ -38,6 +38,7 @@ final class EdgesOfDrives {
         goodOfEachCode();
         goodPending();
         goodSet();
+        goodHealed();
         notRun();
         ageLimits();
         agePermanent();
@@ -369,6 +370,30 @@ final class EdgesOfDrives {
         Due.drive(x, "B");
         Due.drives(x, 2, "G");
         due.is("healed anew", Due.state(x, 0), Due.state(3, 0, 2, 1));
+    }
+
+    private void goodHealed() {
+        String sentence = "SET: with the good count at good it is HEALED, its age 0.";
+        due.edge(5, sentence, "healed already, the good count at good anew as it was cleared: its age goes on");
+        TroubleCodes x = new TroubleCodes();
+        x.check(1, 0, 1, 3, 9, 0, false);
+        Due.drive(x, "B");
+        Due.drives(x, 3, "G");
+        x.clear();
+        Due.drives(x, 2, "G");
+        due.is("one less", Due.state(x, 0), Due.state(3, 0, 2, 2));
+        Due.drive(x, "G");
+        due.is("at good", Due.state(x, 0), Due.state(3, 0, 3, 3));
+        due.edge(5, sentence, "healed already, the good count at good anew as it was held back: its age goes on");
+        TroubleCodes y = Due.plains(1);
+        y.check(2, 0, 1, 2, 9, 0, false);
+        Due.drive(y, ".B");
+        Due.drives(y, 2, ".G");
+        Due.drive(y, "BB");
+        Due.drive(y, ".G");
+        due.is("one less", Due.state(y, 1), Due.state(3, 0, 1, 1));
+        Due.drive(y, ".G");
+        due.is("at good", Due.state(y, 1), Due.state(3, 0, 2, 2));
     }
 
     private void notRun() {
