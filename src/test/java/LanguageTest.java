@@ -31,6 +31,7 @@ public final class LanguageTest {
         face();
         members();
         text();
+        library();
         methodsAreShort();
         due.finish();
     }
@@ -61,6 +62,7 @@ public final class LanguageTest {
         for (Method method : TroubleCodes.class.getDeclaredMethods()) {
             int kind = method.getModifiers() & (Modifier.PUBLIC | Modifier.PRIVATE);
             due.is(method + " is public or private", kind == 0 ? 0 : 1, 1);
+            due.is("at most seven parameters of " + method, Math.max(method.getParameterCount(), 7), 7);
         }
         for (Field field : TroubleCodes.class.getDeclaredFields()) {
             boolean constant = List.of("NONE", "BAD", "NO", "FULL").contains(field.getName());
@@ -82,11 +84,29 @@ public final class LanguageTest {
         return Files.readString(Path.of("src/main/java/TroubleCodes.java"));
     }
 
+    /** The text without its comments. */
+    private static String code() throws IOException {
+        return source().replaceAll("(?s)/\\*.*?\\*/", "").replaceAll("//[^\n]*", "");
+    }
+
     private static void text() throws IOException {
-        String code = source().replaceAll("(?s)/\\*.*?\\*/", "").replaceAll("//[^\n]*", "");
+        String code = code();
         for (String rule : NOT_IN_THE_LANGUAGE) {
             Matcher matcher = Pattern.compile(rule).matcher(code);
             due.is("in the text: " + rule, matcher.find() ? 1 : 0, 0);
+        }
+    }
+
+    /** Each name that begins like a class is one of the program's own, or a function of the library that the rules list. */
+    private static void library() throws IOException {
+        Set<String> known = new HashSet<>(List.of("TroubleCodes", "Integer.bitCount", "System.arraycopy"));
+        Class<?>[] inside = TroubleCodes.class.getDeclaredClasses();
+        for (Class<?> one : inside) known.add(one.getSimpleName());
+        due.is("at most twelve classes", Math.max(inside.length + 1, 12), 12);
+        Matcher matcher = Pattern.compile("\\b([A-Z]\\w*[a-z]\\w*)(\\.[a-z]\\w*)?").matcher(code());
+        while (matcher.find()) {
+            boolean fine = known.contains(matcher.group(1)) || known.contains(matcher.group());
+            due.is("in the language: " + matcher.group(), fine ? 1 : 0, 1);
         }
     }
 
